@@ -681,7 +681,7 @@ public final class GorgeWire {
         }
 
         int of(int what) {
-            return values[what];
+            return what >= SPAN && what <= STRANDS ? values[what] : 0;
         }
 
         void becomes(int what, int v) {
@@ -1103,7 +1103,10 @@ public final class GorgeWire {
         }
 
         int factOf(int i, int what) {
-            Ride one = rides[i];
+            Ride one = rideAt(i);
+            if (one == null) {
+                return 0;
+            }
             switch (what) {
                 case 0: return one.kind;
                 case 1: return one.weight;
@@ -1157,7 +1160,10 @@ public final class GorgeWire {
 
         /** A TICK of a RIDE that is under way, but for STRANDS: whether it was changed. */
         boolean goesOn(int i) {
-            Ride one = rides[i];
+            Ride one = rideAt(i);
+            if (one == null) {
+                return false;
+            }
             int placeWas = place[i];
             int paceWas = pace[i];
             int quick = rubbed(paceWas + one.gain(wire, placeWas, paceWas), one.rubs(wire));
@@ -1185,9 +1191,10 @@ public final class GorgeWire {
 
         /** Behind the TICK of a RIDE that was under way: STRANDS are less if it is in. */
         private void wearStrands(int i) {
-            if (in[i]) {
+            Ride one = rideAt(i);
+            if (one != null && in[i]) {
                 int left = wire.of(STRANDS);
-                int wear = reader.gives(wearText, WEAR, rides[i].weight, came[i], left, 0);
+                int wear = reader.gives(wearText, WEAR, one.weight, came[i], left, 0);
                 wire.becomes(STRANDS, Math.max(0, left - wear));
             }
         }

@@ -129,6 +129,10 @@ public final class AheadTest {
         Due.is("it never stands", x.stands(0), Due.NONE);
         x.start(0, 5, -1);
         Due.is("stands at PLACE 0", x.stands(0), 7);
+        x.start(0, 198, -1);
+        Due.is("stands behind the last TICK", x.stands(0), 200);
+        x.start(0, 199, -1);
+        Due.is("stands a TICK too late", x.stands(0), Due.NONE);
     }
 
     private static void snugAndLowerAsTriesTell() {

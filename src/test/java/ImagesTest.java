@@ -27,8 +27,9 @@ public final class ImagesTest {
         x.seed(77);
         x.line(500, 3);
         x.line(900, 20);
-        x.load(7, 1);
-        x.load(8, 0);
+        x.load(7, 0);
+        x.load(8, 1);
+        x.load(9, 1);
         x.tell(5);
         x.tell(-6);
         x.ticks(3);
@@ -204,7 +205,7 @@ public final class ImagesTest {
 
     private static void counts() {
         GorgeWire x = full();
-        int[] due = {3, 3, 3, 2, 2, 2, 2, 0, 77};
+        int[] due = {3, 3, 3, 2, 3, 2, 2, 0, 77};
         for (int what = 0; what < 9; what++) {
             Due.is("count(" + what + ")", x.count(what), due[what]);
         }

@@ -26,8 +26,8 @@ public final class LoadsTest {
         Due.is("count(4)", x.count(4), 5);
         Due.is("unload()", x.unload(), 5);
         Due.is("count(4)", x.count(4), 0);
-        Due.is("load(7, 1)", x.load(7, 1), 0);
-        Due.is("what all take", x.order(-1), 12);
+        Due.is("load(7, 0)", x.load(7, 0), 0);
+        Due.is("its SIDE is its own", x.order(-1), 7);
     }
 
     private static void ordersByHand() {

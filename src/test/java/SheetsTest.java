@@ -44,6 +44,10 @@ public final class SheetsTest {
         x.put(2, 1, 5);
         Due.is("one LINE", x.lines(2), 1);
         x.sheet(2, 32, 4);
+        x.put(2, 1, 5);
+        Due.is("all 0 again", x.lines(2), 0);
+        x.sheet(2, 32, 4);
+        x.put(2, 0, 5);
         Due.is("all 0 again", x.lines(2), 0);
     }
 

@@ -353,6 +353,10 @@ public final class TextsTest {
         Due.is("GOES is as ahead", x.law(1, 4, 0, 1, 0), 1);
         Due.is("text with a FAULT", Due.text(x, 0, "w+v"), -12);
         Due.is("the one ahead stays", x.law(0, 1, 2, 0, 99), 21);
+        Due.is("text with a FAULT at once", Due.text(x, 0, "+7"), -10);
+        Due.is("the one ahead stays", x.law(0, 1, 2, 0, 99), 21);
+        Due.is("text of an empty TAPE", x.text(0), -10);
+        Due.is("the one ahead stays", x.law(0, 1, 2, 0, 99), 21);
         Due.is("a shorter one", Due.text(x, 0, "7"), 1);
         Due.is("in place of it", x.law(0, 1, 2, 0, 99), 7);
         Due.is("GOES", Due.text(x, 1, "w-v"), 1);

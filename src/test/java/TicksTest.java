@@ -37,10 +37,15 @@ public final class TicksTest {
         Due.is("gusts(200)", x.gusts(200), Due.STATE);
         Due.is("ticks(201)", x.ticks(201), Due.BEYOND);
         Due.is("WIND and z stay", x.count(8), 1);
+        x.image();
+        Due.is("gusts(199)", x.gusts(199) > Due.LOW ? 1 : 0, 1);
+        Due.is("NOW", x.count(0), 99999);
+        Due.is("gusts(1)", x.gusts(1), Due.STATE);
+        x.restore();
         Due.is("ticks(199)", x.ticks(199), 99999);
         Due.is("ticks(1)", x.ticks(1), Due.STATE);
         Due.is("AHEAD beyond the last", x.then(200, 0, 0), 0);
-        Due.is("told(3)", x.told(3), 3);
+        Due.is("told(3)", x.told(3), 4);
         Due.is("t is NOW", Due.text(x, 1, "t=9999*10+9"), 1);
         Due.is("a RIDE by t", x.ride(0, 1, 0), 1);
     }

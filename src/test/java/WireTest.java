@@ -167,6 +167,8 @@ public final class WireTest {
                 Due.is("most() of SPAN " + span + ", BEARS " + bears, x.most(), mostDue(x, span, bears));
             }
         }
+        x.wire(5, 2000);
+        Due.is("it HOLDS with 0 alone", x.most(), 0);
         x.wire(5, 99999);
         Due.is("most() of great BEARS", x.most(), 300);
         x.wire(5, 2000);
