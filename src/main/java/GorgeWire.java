@@ -704,8 +704,13 @@ public final class GorgeWire {
             return pull < 100 ? 100 : pull;
         }
 
+        /** SPAN as a divisor: it is 20 at least, and this shows that it is never 0. */
+        private int spanBy() {
+            return Math.max(1, values[SPAN]);
+        }
+
         int depthAt(int x, int load) {
-            long span = values[SPAN];
+            long span = spanBy();
             long taut = taut();
             long bow = x * (span - x);
             return (int) (1000L * values[DROP] * x / span
@@ -719,7 +724,7 @@ public final class GorgeWire {
         }
 
         int pulledAt(int x, int load) {
-            int span = values[SPAN];
+            int span = spanBy();
             return taut() + 4 * load * x * (span - x) / (span * span);
         }
     }
