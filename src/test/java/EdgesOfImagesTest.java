@@ -13,6 +13,7 @@ public final class EdgesOfImagesTest {
         restoreAnswersNow();
         restoreOfAnEmptyOneEmptiesAll();
         restoreOfAFullOneFillsAll();
+        restoreLeavesNothingOfWhatCameSince();
         restoreKeepsTheImage();
         restoreLeavesSheetsTraceAndTold();
         restoreBringsTheLawsWithoutATextBack();
@@ -164,6 +165,30 @@ public final class EdgesOfImagesTest {
         GorgeWire x = Whole.full();
         x.image();
         return x;
+    }
+
+    private static void restoreLeavesNothingOfWhatCameSince() {
+        GorgeWire x = new GorgeWire();
+        x.wire(0, 20);
+        x.line(9, 1);
+        x.load(9, 0);
+        x.ride(2, 9, 99);
+        x.image();
+        x.line(9, 9);
+        x.load(20, 0);
+        x.ride(2, 9, 99);
+        x.ticks(20);
+        Due.is("the second is in", x.ofRide(1, 5), 1);
+        x.restore();
+        Due.is("another second LINE", x.line(1, 4), 1);
+        Due.is("8 of 9", x.over(1, -1), 2);
+        Due.is("another second LOAD", x.load(30, 1), 1);
+        Due.is("9, and 30 back", x.order(-1), 39);
+        Due.is("another second RIDE", x.ride(3, 8, 7), 1);
+        int[] due = {3, 8, 7, 0, 0, 0, 0};
+        for (int what = 0; what < due.length; what++) {
+            Due.is("ofRide(1, " + what + ")", x.ofRide(1, what), due[what]);
+        }
     }
 
     private static void restoreKeepsTheImage() {

@@ -14,6 +14,7 @@ public final class EdgesOfLinesTest {
         linesStopAtOneThatIsNotWhole();
         linesStopAtTheFirstThatIsNotAsTold();
         linesTakeBothEndsOfEach();
+        linesAreTwosFromNumberZeroOn();
         linesStopWhereThereIsNoRoom();
         linesLeaveTheSheetAsItIs();
         overTakesLinesThatAre();
@@ -128,6 +129,25 @@ public final class EdgesOfLinesTest {
                 x -> x.lines(2));
         Edge.taken("the greatest of 8 bits", 1, () -> withSheet(8, 127, 127), x -> x.lines(2));
         Edge.taken("one more is below 0", 0, () -> withSheet(8, 128, 127), x -> x.lines(2));
+    }
+
+    private static void linesAreTwosFromNumberZeroOn() {
+        GorgeWire x = withSheet(8, 4, 1, 6, 2, 8, 3, 10, 4, 12, 5, 14, 6, 16, 7, 1, 8);
+        x.wire(0, 20);
+        Due.is("eight", x.lines(2), 8);
+        // Each can pull just the next one, and the last none.
+        for (int line = 0; line < 8; line++) {
+            Due.is("over(" + line + ", -1)", x.over(line, -1), line + 1);
+        }
+        x = withSheet(8, 99, 1, 3, 49, 1, 2);
+        x.wire(0, 20);
+        Due.is("three", x.lines(2), 3);
+        Due.is("98 of 99", x.over(1, -1), 2);
+        Due.is("4 of 99", x.over(2, -1), 2);
+        x = withSheet(8, 3, 1, 99, 1, 98, 2);
+        x.wire(0, 20);
+        Due.is("three", x.lines(2), 3);
+        Due.is("by the second alone", x.over(2, 1), 1);
     }
 
     private static GorgeWire withLines(int n) {
@@ -283,8 +303,9 @@ public final class EdgesOfLinesTest {
         Due.is("none are left", x.count(4), 0);
         Due.is("nothing is brought", x.order(-1), 0);
         Due.is("again", x.unload(), 0);
-        Due.is("the first again", x.load(7, 1), 0);
-        Due.is("it is on its own SIDE", x.order(-1), 12);
+        // The first of those that were was there, this one is here.
+        Due.is("the first again", x.load(7, 0), 0);
+        Due.is("it is on its own SIDE", x.order(-1), 7);
     }
 
     private static void orderTakesMinusOneAndMore() {

@@ -359,8 +359,8 @@ public final class EdgesOfRidesTest {
 
     private static void spanToldLessMovesWhatWouldBeBeyond() {
         GorgeWire x = new GorgeWire();
-        int[] places = {0, 199, 200, 201, 3000};
-        int[] due = {0, 199, 200, 200, 200};
+        int[] places = {201, 199, 200, 0, 3000};
+        int[] due = {200, 199, 200, 0, 200};
         for (int i = 0; i < places.length; i++) {
             x.ride(0, 1, 0);
             x.start(i, places[i], 10 - i);

@@ -9,6 +9,7 @@ public final class EdgesOfTicksTest {
         ticksTakesOneTo200();
         gustsTakesOneTo200();
         theLastTickIs99999();
+        theLastTickIsNowForTexts();
         ticksAboveTheLastAreRefused();
         gustsAboveTheLastAreRefused();
         beyondIsAskedAheadOfStateOfTicks();
@@ -21,6 +22,7 @@ public final class EdgesOfTicksTest {
         oneThatStandsAtTheEndIsIn();
         oneThatIsInGoesNoMore();
         strandsAreZeroAtLeast();
+        strandsAreLessByWearOfThePace();
         ridesComeInByNumbers();
         placeBelowZeroIsZero();
         placeAtZeroKeepsItsPace();
@@ -84,6 +86,13 @@ public final class EdgesOfTicksTest {
         Due.is("gusts(199)", z.count(0), 99999);
         Due.is("gusts(1)", z.gusts(1), Due.STATE);
         Due.is("ticks(1)", z.ticks(1), Due.STATE);
+    }
+
+    private static void theLastTickIsNowForTexts() {
+        GorgeWire x = late(Whole::fresh);
+        x.ticks(199);
+        Due.is("t=9999*10+9", Due.text(x, 1, "t=9999*10+9"), 1);
+        Due.is("it GOES", x.ride(0, 1, 0), 0);
     }
 
     private static void ticksAboveTheLastAreRefused() {
@@ -239,6 +248,21 @@ public final class EdgesOfTicksTest {
             tick(x, 3000, 0);
             Due.is("STRANDS " + s[0] + " less by 10", x.strands(0), s[1]);
         }
+    }
+
+    private static void strandsAreLessByWearOfThePace() {
+        // PACE 280 and GAIN 50, less 20, held: it comes at 300.
+        GorgeWire x = flat(HAULED, 50, 20);
+        Due.text(x, 0, "p-290");
+        tick(x, 2999, 280);
+        Due.is("CAME", x.ofRide(0, 6), 300);
+        Due.is("STRANDS", x.strands(0), 90);
+        // Without a TEXT 101 is quick, 100 isn't.
+        GorgeWire quick = flat(0, 0, 0);
+        tick(quick, 2999, 100);
+        Due.is("by 100", quick.strands(0), 100);
+        tick(quick, 2999, 101);
+        Due.is("by 101", quick.strands(0), 99);
     }
 
     private static void ridesComeInByNumbers() {

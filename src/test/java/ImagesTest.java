@@ -176,10 +176,8 @@ public final class ImagesTest {
         x.tell(0);
         Due.is("check(201)", x.check(201), Due.BEYOND);
         Due.is("none wait then, too", x.count(6), 0);
-        for (int i = 0; i < 8; i++) {
-            x.ride(i % 7, 20 * i + 1, 5 * i);
-        }
         for (int n : new int[] {0, 1, 30, 200}) {
+            x = eight();
             tellPlaces(x, n, 8);
             Due.is("as due, AHEAD by " + n, x.check(n), 0);
             Due.is("none wait", x.count(6), 0);
@@ -193,8 +191,16 @@ public final class ImagesTest {
                 x.tell(-1);
                 Due.is("the first wrong is " + missing, x.check(n), 1 + missing);
             }
+            Due.is("no TICK went by", x.count(0), 0);
         }
-        Due.is("no TICK went by", x.count(0), 0);
+    }
+
+    private static GorgeWire eight() {
+        GorgeWire x = new GorgeWire();
+        for (int i = 0; i < 8; i++) {
+            x.ride(i % 7, 20 * i + 1, 5 * i);
+        }
+        return x;
     }
 
     private static void tellPlaces(GorgeWire x, int n, int count) {

@@ -113,6 +113,7 @@ public final class LoadsTest {
         }
         Due.is("told(1)", x.told(1), wrong.length);
         for (int c = 1; c <= 9999; c += c < 300 || c > 9990 ? 1 : 97) {
+            x = new GorgeWire();
             for (int k : new int[] {1, 2, 7, 10, 50, 98, 99}) {
                 int n = 0;
                 while (n * k < c) {

@@ -16,8 +16,8 @@ public final class RoomTest {
         ahead = THREADS.getThreadAllocatedBytes(Thread.currentThread().getId());
         dearest(x);
         long then = THREADS.getThreadAllocatedBytes(Thread.currentThread().getId()) - ahead;
-        // 500 calls that made but one object each would take 8000 bytes.
-        Due.is("500 of the dearest calls make next to nothing: " + then, then < 4096 ? 1 : 0, 1);
+        // 480 calls that made but one object each would take 7680 bytes.
+        Due.is("480 of the dearest calls make next to nothing: " + then, then < 4096 ? 1 : 0, 1);
         Due.end();
     }
 
@@ -34,7 +34,7 @@ public final class RoomTest {
     }
 
     private static void dearest(GorgeWire x) {
-        for (int i = 0; i < 50; i++) {
+        for (int i = 0; i < 48; i++) {
             x.snug(0, 60, 1);
             x.lower(0, 60);
             x.gusts(200);

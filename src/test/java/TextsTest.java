@@ -336,6 +336,7 @@ public final class TextsTest {
         int[] numbers = {0, 1, 4, 5, 99, 100, 101, 199, 200, 500, 9899, 9900, 9999, 429496730,
             -1, -99, -100, -200, Integer.MAX_VALUE, Integer.MIN_VALUE};
         for (int a : numbers) {
+            x = new GorgeWire();
             for (int b : numbers) {
                 int wear = Math.max(0, Math.min(99, a / 100 + (b > 100 ? 1 : 0)));
                 Due.is("law(0, " + a + ", " + b + ", ..)", x.law(0, a, b, 3, 9), wear);

@@ -4,7 +4,6 @@ import java.util.Random;
 public final class TicksTest {
     public static void main(String[] args) {
         bounds();
-        lastTick();
         againstAModel();
         edgesOfAWay();
         wear();
@@ -26,31 +25,7 @@ public final class TicksTest {
         Due.is("count(0)", x.count(0), 401);
     }
 
-    private static void lastTick() {
-        GorgeWire x = new GorgeWire();
-        x.ride(0, 100, 0);
-        for (int i = 1; i < 500; i++) {
-            x.ticks(200);
-        }
-        Due.is("NOW", x.count(0), 99800);
-        Due.is("ticks(200)", x.ticks(200), Due.STATE);
-        Due.is("gusts(200)", x.gusts(200), Due.STATE);
-        Due.is("ticks(201)", x.ticks(201), Due.BEYOND);
-        Due.is("WIND and z stay", x.count(8), 1);
-        x.image();
-        Due.is("gusts(199)", x.gusts(199) > Due.LOW ? 1 : 0, 1);
-        Due.is("NOW", x.count(0), 99999);
-        Due.is("gusts(1)", x.gusts(1), Due.STATE);
-        x.restore();
-        Due.is("ticks(199)", x.ticks(199), 99999);
-        Due.is("ticks(1)", x.ticks(1), Due.STATE);
-        Due.is("AHEAD beyond the last", x.then(200, 0, 0), 0);
-        Due.is("told(3)", x.told(3), 4);
-        Due.is("t is NOW", Due.text(x, 1, "t=9999*10+9"), 1);
-        Due.is("a RIDE by t", x.ride(0, 1, 0), 1);
-    }
-
-    /** One TICK by the words of the document, on rows of its own; the face tells DEPTHS alone. */
+    /** One TICK by the words of the document, on rows of its own; the face tells WEAR alone. */
     private static final class Model {
         final int[] wire = {300, 10, 2000, 10, 0, 9000, 5, 0, 100};
         final int[][] rides = new int[8][];
@@ -63,8 +38,15 @@ public final class TicksTest {
         static final int IN = 5;
         static final int CAME = 6;
 
-        int gain(GorgeWire x, int[] r) {
-            int base = x.steep(r[PLACE] / 10, r[WEIGHT]) / 50;
+        long depth(long x, long load) {
+            long tight = Math.max(100, wire[2] - 10 * wire[4]);
+            long bow = x * (wire[0] - x);
+            return 1000 * wire[1] * x / wire[0] + 500 * wire[3] * bow / tight + 1000 * load * bow / (wire[0] * tight);
+        }
+
+        int gain(int[] r) {
+            int yard = Math.min(r[PLACE] / 10, wire[0] - 1);
+            int base = (int) (depth(yard + 1, r[WEIGHT]) - depth(yard, r[WEIGHT])) / 50;
             int rolled = base + (wire[4] > 0 ? 1 : 0);
             int braked = rolled - (r[PACE] > r[M] ? (r[PACE] - r[M]) / 2 : 0);
             switch (r[0]) {
@@ -83,7 +65,7 @@ public final class TicksTest {
                 if (r[IN] == 1) {
                     continue;
                 }
-                r[PACE] += gain(x, r);
+                r[PACE] += gain(r);
                 int rubs = r[0] == 6 ? wire[6] / 2 : wire[6];
                 for (int rub = 0; rub < rubs; rub++) {
                     r[PACE] -= Integer.signum(r[PACE]);
@@ -129,7 +111,7 @@ public final class TicksTest {
                 x.ride(r[0], r[1], r[2]);
                 x.start(i, r[3], r[4]);
             }
-            for (int t = 1; t <= 15; t++) {
+            for (int t = 1; t <= 10; t++) {
                 int n = t % 5 == 0 ? 20 : 1;
                 Due.is("ticks(" + n + ")", x.ticks(n), x.count(0));
                 for (int k = 0; k < n; k++) {
@@ -142,7 +124,7 @@ public final class TicksTest {
 
     private static void compare(GorgeWire x, Model model, String where) {
         for (int i = 0; i < model.count; i++) {
-            for (int what = 0; what < 7; what++) {
+            for (int what = Model.PLACE; what <= Model.CAME; what++) {
                 Due.is("ofRide(" + i + ", " + what + "), " + where, x.ofRide(i, what), model.rides[i][what]);
             }
         }
