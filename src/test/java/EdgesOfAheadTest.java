@@ -32,19 +32,9 @@ public final class EdgesOfAheadTest {
         Due.end();
     }
 
-    /** STEEP by 50 is 0, and nothing rubs: a RIDE keeps its PACE. */
-    private static GorgeWire flat() {
-        GorgeWire x = new GorgeWire();
-        x.wire(1, 0);
-        x.wire(2, 9999);
-        x.wire(3, 1);
-        x.wire(6, 0);
-        x.ride(0, 1, 0);
-        return x;
-    }
-
+    /** STEEP by 50 is 0, and nothing rubs: the RIDE keeps its PACE. */
     private static GorgeWire flat(int place, int pace) {
-        GorgeWire x = flat();
+        GorgeWire x = Whole.flat(0, 0, 0);
         x.start(0, place, pace);
         return x;
     }
@@ -93,19 +83,34 @@ public final class EdgesOfAheadTest {
         Due.is("0 at least", x.strands(200), 0);
     }
 
-    private static void aheadGoesBeyondTheLastTick() {
-        GorgeWire x = flat();
+    /** NOW is the last TICK: of the 512 calls six are left. */
+    private static GorgeWire last(int place, int pace) {
+        GorgeWire x = Whole.flat(0, 0, 0);
         for (int i = 0; i < 499; i++) {
             x.ticks(200);
         }
         x.ticks(199);
-        // 505 calls so far: seven are left.
-        x.start(0, 2800, 1);
+        x.start(0, place, pace);
+        return x;
+    }
+
+    private static void aheadGoesBeyondTheLastTick() {
+        GorgeWire x = last(2800, 1);
+        Due.is("NOW", x.count(0), 99999);
         Due.is("then(200, 0, 5)", x.then(200, 0, 5), 1);
+        Due.is("then(199, 0, 3)", x.then(199, 0, 3), 2999);
         Due.is("strands(200)", x.strands(200), 100);
         Due.is("comes(0)", x.comes(0), 200);
-        Due.is("told(3)", x.told(3), 0);
         Due.is("NOW", x.count(0), 99999);
+        x = last(2800, 1);
+        x.tell(3000);
+        Due.is("check(200)", x.check(200), 0);
+        x = last(1000, 0);
+        Due.is("stands(0)", x.stands(0), 1);
+        x = last(2990, 300);
+        Due.is("snug(0, 1, 300)", x.snug(0, 1, 300), 100);
+        Due.is("lower(0, 1)", x.lower(0, 1), -99);
+        Due.is("told(3)", x.told(3), 0);
     }
 
     private static void looksAheadChangeNothing() {
@@ -151,11 +156,7 @@ public final class EdgesOfAheadTest {
         x.start(0, 1000, 6);
         // 1, 0, and nothing.
         Due.is("PLACE and PACE are changed", x.stands(0), 3);
-        GorgeWire hauled = new GorgeWire();
-        hauled.wire(1, 0);
-        hauled.wire(2, 9999);
-        hauled.wire(3, 1);
-        hauled.ride(HAULED, 1, 5);
+        GorgeWire hauled = Whole.flat(HAULED, 5, 5);
         hauled.start(0, 0, 10);
         // GAIN 5 and RUB 5: PACE is the same by each TICK, PLACE isn't; it comes in by the 300th.
         Due.is("PLACE alone is changed", hauled.stands(0), Due.NONE);
@@ -325,8 +326,11 @@ public final class EdgesOfAheadTest {
         int n = comesBy(x, 1, 99);
         Due.is("in just n", x.lower(0, n), 99);
         Due.is("in one fewer", x.lower(0, n - 1), Due.NONE);
-        // A RIDE that comes as quick as one may: LOWER asks for no CAME.
-        Due.is("CAME 300", flat(2990, 300).lower(0, 1), -99);
+        // A RIDE that is hauled so comes as quick as one may by each DROP: LOWER asks for no CAME.
+        GorgeWire quick = made(300, 0, 1, 0, HAULED, 1, 99, 300);
+        quick.start(0, 2990, 300);
+        Due.is("CAME 300", quick.then(1, 0, 6), 300);
+        Due.is("by the least DROP", quick.lower(0, 1), -99);
     }
 
     private static void lowerTriesFromMinus99To99() {

@@ -43,15 +43,8 @@ public final class EdgesOfRidesTest {
         Due.end();
     }
 
-    /** GAIN is what the KIND adds alone: it hangs so little that STEEP by 50 is 0. */
     private static GorgeWire flat(int kind, int m) {
-        GorgeWire x = new GorgeWire();
-        x.wire(1, 0);
-        x.wire(2, 9999);
-        x.wire(3, 1);
-        x.wire(6, 0);
-        x.ride(kind, 1, m);
-        return x;
+        return Whole.flat(kind, m, 0);
     }
 
     private static GorgeWire goesNoMore() {

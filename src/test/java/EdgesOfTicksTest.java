@@ -35,17 +35,6 @@ public final class EdgesOfTicksTest {
         Due.end();
     }
 
-    /** GAIN is what the KIND adds alone: it hangs so little that STEEP by 50 is 0. */
-    private static GorgeWire flat(int kind, int m, int rub) {
-        GorgeWire x = new GorgeWire();
-        x.wire(1, 0);
-        x.wire(2, 9999);
-        x.wire(3, 1);
-        x.wire(6, rub);
-        x.ride(kind, 1, m);
-        return x;
-    }
-
     /** NOW is 99800, 499 calls behind those that are told. */
     private static GorgeWire late(Supplier<GorgeWire> maker) {
         GorgeWire x = maker.get();
@@ -96,7 +85,7 @@ public final class EdgesOfTicksTest {
     }
 
     private static void ticksAboveTheLastAreRefused() {
-        GorgeWire x = late(() -> flat(0, 0, 0));
+        GorgeWire x = late(() -> Whole.flat(0, 0, 0));
         x.start(0, 1000, 1);
         Due.is("ticks(200)", x.ticks(200), Due.STATE);
         Due.is("NOW stays", x.count(0), 99800);
@@ -107,7 +96,7 @@ public final class EdgesOfTicksTest {
     }
 
     private static void gustsAboveTheLastAreRefused() {
-        GorgeWire x = late(() -> flat(0, 0, 0));
+        GorgeWire x = late(() -> Whole.flat(0, 0, 0));
         x.start(0, 1000, 1);
         Due.is("gusts(200)", x.gusts(200), Due.STATE);
         Due.is("z stays", x.count(8), 1);
@@ -139,11 +128,11 @@ public final class EdgesOfTicksTest {
     }
 
     private static void paceThatIsZeroIsNotRubbed() {
-        GorgeWire x = flat(0, 0, 99);
+        GorgeWire x = Whole.flat(0, 0, 99);
         tick(x, 1000, 0);
         Due.is("PACE", x.ofRide(0, 4), 0);
         Due.is("PLACE", x.ofRide(0, 3), 1000);
-        GorgeWire hauled = flat(HAULED, 40, 0);
+        GorgeWire hauled = Whole.flat(HAULED, 40, 0);
         tick(hauled, 1000, -40);
         Due.is("0 by its GAIN", hauled.ofRide(0, 4), 0);
         hauled.wire(6, 7);
@@ -154,18 +143,18 @@ public final class EdgesOfTicksTest {
     private static void rubStopsAtZero() {
         int[][] paceAndThen = {{8, 1}, {7, 0}, {6, 0}, {1, 0}, {-1, 0}, {-6, 0}, {-7, 0}, {-8, -1}, {300, 293}};
         for (int[] p : paceAndThen) {
-            GorgeWire x = flat(0, 0, 7);
+            GorgeWire x = Whole.flat(0, 0, 7);
             tick(x, 1000, p[0]);
             Due.is("PACE " + p[0] + " rubbed by 7", x.ofRide(0, 4), p[1]);
             Due.is("PLACE is more by that", x.ofRide(0, 3), 1000 + p[1]);
         }
-        GorgeWire x = flat(0, 0, 0);
+        GorgeWire x = Whole.flat(0, 0, 0);
         tick(x, 1000, -5);
         Due.is("PACE -5 rubbed by 0", x.ofRide(0, 4), -5);
     }
 
     private static void paceIsHeldBehindTheRub() {
-        GorgeWire x = flat(HAULED, 50, 20);
+        GorgeWire x = Whole.flat(HAULED, 50, 20);
         tick(x, 0, 300);
         Due.is("350, 330, held", x.ofRide(0, 4), 300);
         tick(x, 0, 270);
@@ -173,7 +162,7 @@ public final class EdgesOfTicksTest {
         tick(x, 0, 269);
         Due.is("319, 299", x.ofRide(0, 4), 299);
         Due.is("PLACE is more by that", x.ofRide(0, 3), 299);
-        GorgeWire windy = flat(WINDY, 0, 10);
+        GorgeWire windy = Whole.flat(WINDY, 0, 10);
         windy.wire(7, -20);
         tick(windy, 1000, -300);
         Due.is("-320, -310, held", windy.ofRide(0, 4), -300);
@@ -185,7 +174,7 @@ public final class EdgesOfTicksTest {
     }
 
     private static void placeAtTheEndIsIn() {
-        GorgeWire x = flat(0, 0, 0);
+        GorgeWire x = Whole.flat(0, 0, 0);
         tick(x, 2990, 9);
         Due.is("a tenth ahead", x.ofRide(0, 3), 2999);
         Due.is("is under way", x.ofRide(0, 5), 0);
@@ -201,7 +190,7 @@ public final class EdgesOfTicksTest {
     }
 
     private static void placeBeyondTheEndIsTheEnd() {
-        GorgeWire x = flat(0, 0, 0);
+        GorgeWire x = Whole.flat(0, 0, 0);
         tick(x, 2999, 300);
         Due.is("PLACE", x.ofRide(0, 3), 3000);
         Due.is("CAME", x.ofRide(0, 6), 300);
@@ -214,7 +203,7 @@ public final class EdgesOfTicksTest {
     }
 
     private static void oneThatStandsAtTheEndIsIn() {
-        GorgeWire x = flat(0, 0, 5);
+        GorgeWire x = Whole.flat(0, 0, 5);
         x.start(0, 3000, 0);
         Due.is("ahead of a TICK it isn't", x.ofRide(0, 5), 0);
         x.ticks(1);
@@ -228,7 +217,7 @@ public final class EdgesOfTicksTest {
     }
 
     private static void oneThatIsInGoesNoMore() {
-        GorgeWire x = flat(HAULED, 99, 0);
+        GorgeWire x = Whole.flat(HAULED, 99, 0);
         tick(x, 3000, 50);
         int strands = x.strands(0);
         x.wire(0, 400);
@@ -242,7 +231,7 @@ public final class EdgesOfTicksTest {
     private static void strandsAreZeroAtLeast() {
         int[][] strandsAndThen = {{0, 0}, {1, 0}, {9, 0}, {10, 0}, {11, 1}, {999, 989}};
         for (int[] s : strandsAndThen) {
-            GorgeWire x = flat(0, 0, 0);
+            GorgeWire x = Whole.flat(0, 0, 0);
             Due.text(x, 0, "10");
             x.wire(8, s[0]);
             tick(x, 3000, 0);
@@ -252,13 +241,13 @@ public final class EdgesOfTicksTest {
 
     private static void strandsAreLessByWearOfThePace() {
         // PACE 280 and GAIN 50, less 20, held: it comes at 300.
-        GorgeWire x = flat(HAULED, 50, 20);
+        GorgeWire x = Whole.flat(HAULED, 50, 20);
         Due.text(x, 0, "p-290");
         tick(x, 2999, 280);
         Due.is("CAME", x.ofRide(0, 6), 300);
         Due.is("STRANDS", x.strands(0), 90);
         // Without a TEXT 101 is quick, 100 isn't.
-        GorgeWire quick = flat(0, 0, 0);
+        GorgeWire quick = Whole.flat(0, 0, 0);
         tick(quick, 2999, 100);
         Due.is("by 100", quick.strands(0), 100);
         tick(quick, 2999, 101);
@@ -266,7 +255,7 @@ public final class EdgesOfTicksTest {
     }
 
     private static void ridesComeInByNumbers() {
-        GorgeWire x = flat(0, 0, 0);
+        GorgeWire x = Whole.flat(0, 0, 0);
         x.ride(0, 2, 0);
         x.ride(0, 3, 0);
         // WEAR is the half of the STRANDS of then and the WEIGHT: 100, 49, 23, 9.
@@ -279,7 +268,7 @@ public final class EdgesOfTicksTest {
     }
 
     private static void placeBelowZeroIsZero() {
-        GorgeWire x = flat(0, 0, 0);
+        GorgeWire x = Whole.flat(0, 0, 0);
         tick(x, 9, -10);
         Due.is("PLACE", x.ofRide(0, 3), 0);
         Due.is("PACE", x.ofRide(0, 4), 0);
@@ -291,7 +280,7 @@ public final class EdgesOfTicksTest {
     }
 
     private static void placeAtZeroKeepsItsPace() {
-        GorgeWire x = flat(0, 0, 0);
+        GorgeWire x = Whole.flat(0, 0, 0);
         tick(x, 10, -10);
         Due.is("PLACE", x.ofRide(0, 3), 0);
         Due.is("PACE", x.ofRide(0, 4), -10);
@@ -343,7 +332,7 @@ public final class EdgesOfTicksTest {
     }
 
     private static void aGustIsAheadOfItsTick() {
-        GorgeWire x = flat(WINDY, 0, 0);
+        GorgeWire x = Whole.flat(WINDY, 0, 0);
         x.start(0, 1500, 0);
         x.wire(7, 20);
         int wind = x.gusts(1);
@@ -353,7 +342,7 @@ public final class EdgesOfTicksTest {
     }
 
     private static void everyGustIsADraw() {
-        GorgeWire x = flat(WINDY, 0, 0);
+        GorgeWire x = Whole.flat(WINDY, 0, 0);
         x.start(0, 1500, 0);
         x.seed(Integer.MIN_VALUE);
         int z = Integer.MIN_VALUE;

@@ -17,6 +17,7 @@ public final class EdgesOfVoicesTest {
         voiceChangesNothingButTheTrace();
         traceIsEmptyAtFirst();
         traceTakesThoseThatBegan();
+        traceIsAsBodiesBegan();
         traceIsOfTheLatestAlone();
         traceIsFarFromForty();
         Due.end();
@@ -134,6 +135,17 @@ public final class EdgesOfVoicesTest {
             Due.is("trace(" + i + ")", x.trace(i), due[i]);
         }
         Due.is("BODIES", x.count(7), due.length);
+    }
+
+    private static void traceIsAsBodiesBegan() {
+        GorgeWire x = one(4, 0);
+        x.voice(1, 3, 0);
+        // WINDY: wears 50 of 13 (11 (10) and 12), and of hangs 10 behind that.
+        int[] due = {50, 13, 11, 10, 12, 10};
+        for (int i = 0; i < due.length; i++) {
+            Due.is("trace(" + i + ")", x.trace(i), due[i]);
+        }
+        Due.is("behind the last", x.trace(due.length), Due.NONE);
     }
 
     private static void traceIsOfTheLatestAlone() {

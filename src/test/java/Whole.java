@@ -70,6 +70,17 @@ final class Whole {
         return x;
     }
 
+    /** One RIDE whose GAIN is what its KIND adds alone: it hangs so little that STEEP by 50 is 0. Five calls. */
+    static GorgeWire flat(int kind, int m, int rub) {
+        GorgeWire x = new GorgeWire();
+        x.wire(1, 0);
+        x.wire(2, 9999);
+        x.wire(3, 1);
+        x.wire(6, rub);
+        x.ride(kind, 1, m);
+        return x;
+    }
+
     private static void putSheets(GorgeWire x) {
         x.sheet(0, 8, SHEETS[0].length);
         x.sheet(1, 16, SHEETS[1].length);
