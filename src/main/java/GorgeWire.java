@@ -40,6 +40,7 @@ public final class GorgeWire {
     private static final int MOST_LOADS = 5;
     private static final int MOST_TIME = 99;
     private static final int EMPTY_CROSSING = 5;
+    private static final int BEYOND_ANY_TIME = 1000000;
     private static final int MOST_BYTES = 50;
     private static final int MOST_WAITING = 20;
     private static final int MOST_TRACED = 40;
@@ -225,7 +226,7 @@ public final class GorgeWire {
         if (live.rideAt(ride) == null) {
             return fail(BEYOND);
         }
-        lookAhead(0);
+        ahead.copyFrom(live);
         for (int n = 1; n <= MOST_TICKS && !ahead.in[ride]; n++) {
             if (!ahead.goesOn(ride)) {
                 return n;
@@ -241,7 +242,7 @@ public final class GorgeWire {
         if (live.in[ride]) {
             return fail(STATE);
         }
-        lookAhead(0);
+        ahead.copyFrom(live);
         int n = ahead.comesWithin(ride, MOST_TICKS);
         return n > 0 ? n : fail(NONE);
     }
@@ -326,7 +327,7 @@ public final class GorgeWire {
         if (i >= live.times.size) {
             return fail(NONE);
         }
-        bestTime = Integer.MAX_VALUE;
+        bestTime = BEYOND_ANY_TIME;
         tryOrders(0, 0, 0, 0);
         return i == -1 ? bestTime : best[i];
     }
@@ -524,7 +525,7 @@ public final class GorgeWire {
         if (live.in[ride]) {
             return fail(STATE);
         }
-        lookAhead(0);
+        ahead.copyFrom(live);
         for (int v = from; v <= to; v += step) {
             ahead.copyRide(live, ride);
             ahead.wire.becomes(what, v);
@@ -706,7 +707,7 @@ public final class GorgeWire {
 
         /** SPAN as a divisor: it is 20 at least, and this shows that it is never 0. */
         private int spanBy() {
-            return Math.max(1, values[SPAN]);
+            return values[SPAN] < 1 ? 1 : values[SPAN];
         }
 
         int depthAt(int x, int load) {

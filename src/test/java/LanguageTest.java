@@ -14,11 +14,16 @@ public final class LanguageTest {
     private static final String[] FORBIDDEN = {"throw", "throws", "try", "catch", "finally", "synchronized", "assert",
         "import", "package", "protected", "volatile", "native", "Object", "Exception", "hashCode", "toString",
         "System.out", "->", "::", "@", "Exact("};
+    /** Of what rule 4 lists, what the class uses. */
+    private static final Set<String> LIBRARY = Set.of("Math.max", "Math.min", "System.arraycopy");
+    private static final int MOST_LINES = 60;
 
     public static void main(String[] args) throws Exception {
         String code = withoutComments(Files.readString(Path.of("src/main/java/GorgeWire.java")));
         face(code, Files.readString(Path.of("../shared/DOC.md")));
         words(code);
+        library(code);
+        lengths(code);
         members();
         Due.end();
     }
@@ -49,6 +54,27 @@ public final class LanguageTest {
             String end = Character.isLetter(word.charAt(word.length() - 1)) ? "\\b" : "";
             Due.is("no '" + word + "'", Pattern.compile(pattern + end).matcher(code).find() ? 1 : 0, 0);
         }
+    }
+
+    private static void library(String code) {
+        Pattern use = Pattern.compile("\\b(?:Integer|Long|Math|System|Arrays|Character|Boolean|String|Double)\\.\\w+");
+        Matcher matcher = use.matcher(code);
+        while (matcher.find()) {
+            Due.is("the library has " + matcher.group(), LIBRARY.contains(matcher.group()) ? 1 : 0, 1);
+        }
+    }
+
+    /** A method begins with a head that ends in a brace and ends with a brace that stands as far in. */
+    private static void lengths(String code) {
+        Matcher matcher = Pattern.compile("(?ms)^( {4}| {8})[^\\s}][^\\n]*\\) \\{$.*?^\\1\\}$").matcher(code);
+        int methods = 0;
+        while (matcher.find()) {
+            String method = matcher.group();
+            methods++;
+            Due.is("some sixty lines at most:" + method.lines().findFirst().orElse(""),
+                    method.lines().count() <= MOST_LINES ? 1 : 0, 1);
+        }
+        Due.is("methods found: " + methods, methods > 100 ? 1 : 0, 1);
     }
 
     private static void members() {
